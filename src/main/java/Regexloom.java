@@ -1,3 +1,5 @@
+import java.util.Arrays;
+
 /** Expressions that match texts by backing up, by sets of states and by stored sets. */
 public final class Regexloom {
     public static final int NONE = -1;
@@ -381,7 +383,7 @@ public final class Regexloom {
                 return NONE;
             }
             if ((size + 1) * width > cells.length) {
-                cells = java.util.Arrays.copyOf(cells, width * Math.min(most, 2 * size + 2));
+                cells = Arrays.copyOf(cells, width * Math.min(most, 2 * size + 2));
             }
             size++;
             return size - 1;
@@ -394,7 +396,7 @@ public final class Regexloom {
                 return;
             }
             if (wanted * width > cells.length) {
-                cells = java.util.Arrays.copyOf(cells, width * Math.min(most, 2 * wanted));
+                cells = Arrays.copyOf(cells, width * Math.min(most, 2 * wanted));
             }
             size = wanted;
         }
@@ -1135,7 +1137,7 @@ public final class Regexloom {
             for (int piece = 0; piece < pattern.pieces.size(); piece++) {
                 int kind = pattern.of(piece, Pattern.KIND);
                 if (isHard(kind) || pattern.of(piece, Pattern.MANNER) == Pattern.POSSESSIVE
-                        || isCountedAbove1(pattern, piece) && canBeEmpty(pattern, piece, 0)) {
+                        || isCountedAbove1(pattern, piece) && canBeEmpty(pattern, piece)) {
                     isPlain = false;
                 }
                 if (isEdge(kind)) {
@@ -1160,7 +1162,11 @@ public final class Regexloom {
         }
 
         /** Whether the atom of a piece could match without a sign. */
-        static boolean canBeEmpty(Pattern pattern, int piece, int depth) {
+        static boolean canBeEmpty(Pattern pattern, int piece) {
+            return canAtomBeEmpty(pattern, piece, 0);
+        }
+
+        private static boolean canAtomBeEmpty(Pattern pattern, int piece, int depth) {
             if (isEdge(pattern.of(piece, Pattern.KIND))) {
                 return true;
             }
@@ -1180,7 +1186,7 @@ public final class Regexloom {
             }
             int piece = pattern.firstPiece(branch);
             for (int k = 0; k <= DRAFT_MOST && piece != NONE; k++) {
-                if (pattern.of(piece, Pattern.LEAST) > 0 && !canBeEmpty(pattern, piece, depth + 1)) {
+                if (pattern.of(piece, Pattern.LEAST) > 0 && !canAtomBeEmpty(pattern, piece, depth + 1)) {
                     return false;
                 }
                 piece = pattern.of(piece, Pattern.NEXT);
@@ -1929,7 +1935,7 @@ public final class Regexloom {
             for (int k = 0; k <= DRAFT_MOST && piece != NONE; k++) {
                 if (pattern.of(piece, Pattern.MANNER) == Pattern.ONCE) {
                     writeAtom(piece, depth);
-                } else if (Shape.canBeEmpty(pattern, piece, 0)) {
+                } else if (Shape.canBeEmpty(pattern, piece)) {
                     writeLooseCount(piece, depth);
                 } else {
                     writeCount(piece, depth);
