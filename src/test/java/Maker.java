@@ -9,6 +9,7 @@ final class Maker {
     private int number;
     private int needed;
     private boolean isPlain;
+    private boolean likesGroups;
     private StringBuilder out;
     List<List<Model.Piece>> pattern;
     String signs;
@@ -39,6 +40,8 @@ final class Maker {
     /** Tries until there is a pattern of 32 signs at most that tells all groups it refers to. */
     void make(boolean onlyPlain) {
         isPlain = onlyPlain;
+        // Otherwise a sixth group would hardly ever come.
+        likesGroups = next(6) == 0;
         while (true) {
             out = new StringBuilder();
             number = 0;
@@ -97,6 +100,9 @@ final class Maker {
 
     private Model.Piece atom(int depth, boolean alike) {
         int roll = next(isPlain ? 16 : 26);
+        if (likesGroups && number < 6 && next(2) == 0) {
+            roll = 9;
+        }
         if (roll < 8 || depth > 4 || out.length() > 30) {
             return sign(alike);
         }
@@ -154,7 +160,7 @@ final class Maker {
     }
 
     private int refer() {
-        int group = 1 + next(3);
+        int group = 1 + next(likesGroups ? 6 : 3);
         needed = Math.max(needed, group);
         return group;
     }

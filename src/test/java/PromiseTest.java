@@ -335,6 +335,9 @@ public final class PromiseTest {
         match("(?>(a)|ab)c", "ac", 0, "0-2 0-1");
         match("(?>a*)b", "aab", 0, "0-3");
         match("(?>a*)ab", "aab", 0, "-1");
+        match("(a)(b)(c)(d)(e)(f)", "abcdef", 0, "0-6 0-1 1-2 2-3 3-4 4-5 5-6");
+        find("(a)(b)(c)(d)(e)(f)", " abcdef", 0, "1-7 1-2 2-3 3-4 4-5 5-6 6-7");
+        match("((((((a))))))\\6(?6)(?(6)b|c)", "aaab", 0, "0-4 0-1 0-1 0-1 0-1 0-1 0-1");
     }
 
     private static void looks() {
@@ -505,7 +508,8 @@ public final class PromiseTest {
             {"(?:a|(b))*", "ba", "0-2 0-1"}, {"((a)|b)+", "ab", "0-2 1-2 0-1"}, {"^a\\b", "a b", "0-1"},
             {"(?|(a)|(b)(c))(d)", "bcd", "0-3 0-1 1-2 2-3"}, {"a{2,3}?", "aaa", "0-2"}, {"b", "a", "-1"},
             {"(?i:[a-c]{1,})", "aBCd", "0-3"}, {"a\\.", "a", "-1"}, {"", "", "0-0"}, {"(a|b?)+?$", "ab", "0-2 1-2"},
-            {"(?:(a)|(b)|)*c", "abc", "0-3 0-1 1-2"}, {"(a{2}){3}", "aaaaaaa", "0-6 4-6"}};
+            {"(?:(a)|(b)|)*c", "abc", "0-3 0-1 1-2"}, {"(a{2}){3}", "aaaaaaa", "0-6 4-6"},
+            {"(a)(b)(c)(d)(e)(f)", "abcdef", "0-6 0-1 1-2 2-3 3-4 4-5 5-6"}};
         for (String[] one : those) {
             Regexloom x = Checks.with(one[0], one[1]);
             x.setBudget(1);
