@@ -509,7 +509,7 @@ public final class PromiseTest {
             {"(?|(a)|(b)(c))(d)", "bcd", "0-3 0-1 1-2 2-3"}, {"a{2,3}?", "aaa", "0-2"}, {"b", "a", "-1"},
             {"(?i:[a-c]{1,})", "aBCd", "0-3"}, {"a\\.", "a", "-1"}, {"", "", "0-0"}, {"(a|b?)+?$", "ab", "0-2 1-2"},
             {"(?:(a)|(b)|)*c", "abc", "0-3 0-1 1-2"}, {"(a{2}){3}", "aaaaaaa", "0-6 4-6"},
-            {"(a)(b)(c)(d)(e)(f)", "abcdef", "0-6 0-1 1-2 2-3 3-4 4-5 5-6"}};
+            {"(a)(b)(c)(d)(e)(f)g*", "abcdefgg", "0-8 0-1 1-2 2-3 3-4 4-5 5-6"}};
         for (String[] one : those) {
             Regexloom x = Checks.with(one[0], one[1]);
             x.setBudget(1);
@@ -660,6 +660,7 @@ public final class PromiseTest {
         ways("(|)", "", 0, 0, 2);
         ways("(|)+", "", 0, 0, 2);
         ways("(|)*", "", 0, 0, 1);
+        ways("|".repeat(32), "", 0, 0, 33);
         ways("(?:a?|a)", "a", 0, 1, 2);
         ways("a{0,3}a{1,2}", "aaa", 0, 3, 2);
         ways("a|ab", "ab", 0, 1, 1);
