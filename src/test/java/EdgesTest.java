@@ -589,6 +589,8 @@ public final class EdgesTest {
         fault("(?|()()()|()()())()()()()", 24);
         fault("(?|()()()|())()()()()", 20);
         fault("(?|()|()()())()()()()", 20);
+        fault("(?|()|()()()|())()()()", -1);
+        fault("(?|()|()()()|())()()()()", 23);
         fault("(?|()()()()()()|()()()()()())", -1);
         fault("(?|()()()()()()|()()()()()()()", 29);
         fault("()()()()()(?|()|()|())", -1);
@@ -630,6 +632,37 @@ public final class EdgesTest {
         match("(?i:a)a", "Aa", 0, "0-2");
         match("(?i:a)a", "AA", 0, "-1");
         match("(?i:(?:(?:a)))", "A", 0, "0-1");
+        // In all that is in it, and no farther.
+        for (String sign : new String[] {"a", "[a]", "[a-b]"}) {
+            for (String around : new String[] {"(%)", "(?:%)", "(?|%)", "(?|b|%)", "(?>%)", "(?=%).", ".(?<=%)", "b|%",
+                "(?:%)*", "(?:%)?+", "(?:(?i:b)|%)"}) {
+                String inner = around.replace("%", sign);
+                CHECKS.due("(?i:" + inner, Checks.with("^(?i:" + inner + ")$", "A").match(0, 0), 1);
+                CHECKS.due("(?:" + inner, Checks.with("^(?:" + inner + ")$", "A").match(0, 0), -1);
+                CHECKS.due("behind (?i:", Checks.with("^(?i:a)(?:" + inner + ")$", "AA").match(0, 0), -1);
+            }
+            for (String around : new String[] {"(?!%).", ".(?<!%)"}) {
+                String inner = around.replace("%", sign);
+                CHECKS.due("(?i:" + inner, Checks.with("^(?i:" + inner + ")$", "A").match(0, 0), -1);
+                CHECKS.due("(?:" + inner, Checks.with("^(?:" + inner + ")$", "A").match(0, 0), 1);
+                CHECKS.due("behind (?i:", Checks.with("^(?i:a)(?:" + inner + ")$", "AA").match(0, 0), 2);
+            }
+        }
+        match("()(?i:(?(1)a))", "A", 0, "0-1 0-0");
+        match("(a)?(?i:(?(1)b|c))", "C", 0, "0-1");
+        match("()(?(1)a)", "A", 0, "-1");
+        match("(a)(?i:(?=\\1))A", "aA", 0, "0-2 0-1");
+        match("(a)(?i:(?:\\1))", "aA", 0, "0-2 0-1");
+        match("(a)(?i:(?>\\1)(?<=\\1)(?!b))", "aA", 0, "0-2 0-1");
+        match("(a)(?i:b)\\1", "aBA", 0, "-1");
+        match("(?i:[a-b]|(?:c))c", "Cc", 0, "0-2");
+        match("(?i:[a-b]|(?:c))c", "CC", 0, "-1");
+        // What a call tries is by the flags of where the group stands.
+        match("(?i:(a))(?1)", "aA", 0, "0-2 0-1");
+        match("(a)(?i:(?1))", "aA", 0, "-1");
+        match("(?i:(?R)|b)|a", "A", 0, "-1");
+        match("(?i:(a)(\\1))(?2)", "aAA", 0, "0-3 0-1 1-2");
+        match("(a)(\\1)(?i:(?2))", "aaA", 0, "-1");
         fault("(?ia)", 3);
         fault("(?i)", 3);
     }
@@ -805,6 +838,9 @@ public final class EdgesTest {
         match("(?=(a|ab))\\1c", "abc", 0, "-1");
         match("(?=(ab|a))\\1c", "abc", 0, "0-3 0-2");
         match("(?<=(b|ab))(?<=^\\1)", "ab", 2, "-1");
+        match("(?<=(a|ab))", "ab", 2, "2-2 0-2");
+        match("(?<=^(a|ab|abc))c", "abc", 2, "2-3 0-2");
+        match("(?<!^(?:a|ab|abc))c", "abc", 2, "-1");
     }
 
     /** "it fails, if that is not set" */
@@ -840,6 +876,15 @@ public final class EdgesTest {
         match("(a)(?1){9}", row('a', 10), 0, "0-10 0-1");
         match("(?R)", "a", 0, "-1");
         match("(?R)|a", "a", 0, "0-1");
+        // What was set ahead of a call is set in it, and as it was behind it.
+        match("(a)(\\1b)(?2)", "aabab", 0, "0-5 0-1 1-3");
+        match("(?:(a)|b)+(?:c|(?(1)d|e)f)", "bef", 0, "0-3");
+        match("(?:(a)|(b))((?(1)c|d))(?3)", "acc", 0, "0-3 0-1 . 1-2");
+        match("(?:(a)|(b))((?(1)c|d))(?3)", "bdd", 0, "0-3 . 0-1 1-2");
+        match("((a)|(b))(?1)(?(3)c|d)", "abd", 0, "0-3 0-1 0-1");
+        match("((a)|(b))(?1)(?(3)c|d)", "bac", 0, "0-3 0-1 . 0-1");
+        match("(a|b(?1))(?1)", "bba", 0, "-1");
+        match("(a|b(?1))(?1)", "bbaba", 0, "0-5 0-3");
         // Each of the six begins its atom, the sixth one fails.
         trialsOf("(?R)", "a", 0, 6);
         trialsOf("(?R)?", "a", 0, 12);
@@ -921,6 +966,13 @@ public final class EdgesTest {
         match("()(?:a(?(1)(*T)b|c)|ad)", "ad", 0, "0-2 0-0");
         match("()a(?(1)(*T)b|c)|ad", "ad", 0, "0-2");
         match("()a*(?(1)(*T)b|a)", "aa", 0, "-1");
+        match("()\\w*(?(1)(*T)b|c)", "ab", 0, "-1");
+        match("()(?:\\w*(?(1)(*T)b|c)|a)", "ab", 0, "0-1 0-0");
+        match("()(?:\\w*(?(1)(?:(*T)b|b)|c)|a)", "ab", 0, "0-2 0-0");
+        // Without several branches it skips nothing, and does not end the search.
+        find("aa(*T)b", "aaab", 0, 1);
+        find("a(*T)b", "acab", 0, 2);
+        findAll("aa(*T)b", "aaabaab", "1-4 4-7 ");
         match("a(*T)b|a(*T)c", "ad", 0, "-1");
         find("a(*T)b|a(*T)c", "adac", 0, 2);
     }
@@ -991,6 +1043,8 @@ public final class EdgesTest {
         trialsOf("(?!)", "", 0, 1);
         trialsOf("(?<=)", "", 0, 2);
         trialsOf("()\\1", "", 0, 2);
+        trialsOf("\\1()", "", 0, 1);
+        trialsOf("(a)?\\1", "b", 0, 4);
         trialsOf("()(?1)", "", 0, 2);
         trialsOf("()(?(1)a|b)", "a", 0, 3);
         trialsOf("()?(?(1)a|b)", "b", 0, 4);
@@ -1409,6 +1463,7 @@ public final class EdgesTest {
         trialsOfCalls();
         matchesOfCalls();
         firstLineDecides();
+        whatCallsChange();
         refusedCalls();
     }
 
@@ -1458,6 +1513,18 @@ public final class EdgesTest {
         CHECKS.due("its trials", x.trials(), 64);
         x.setBudget(3);
         CHECKS.due("a new budget", x.trials(), 64);
+        // "the latest match() or find() .., whichever was called last"
+        x.which(20);
+        x.findAll(0);
+        x.matchBySets(0, 20);
+        CHECKS.due("other calls", x.trials(), 64);
+        x.match(0, 20);
+        CHECKS.due("match behind find", x.trials(), 3);
+        x.setBudget(4);
+        x.find(0, 20);
+        CHECKS.due("find behind match", x.trials(), 3);
+        x.find(0, 19);
+        CHECKS.due("find behind find", x.trials(), 4);
     }
 
     /** "the matches are kept until the next call"; "if there is no such match" */
@@ -1523,31 +1590,105 @@ public final class EdgesTest {
         return x;
     }
 
-    /** All that can be seen of an object; what it says is gone from it then. */
-    private static String seen(Regexloom x) {
-        StringBuilder all = new StringBuilder();
-        all.append(Checks.groups(x)).append(" t").append(x.trials()).append(" f").append(x.fault());
+    private static final String[] PARTS = {"groups", "trials", "fault", "matches", "out", "budget", "draft", "text",
+        "patterns"};
+
+    /** All that can be seen of an object, by the parts told above; what it says is gone from it then. */
+    private static String[] partsOf(Regexloom x) {
+        String[] all = new String[PARTS.length];
+        all[0] = Checks.groups(x);
+        all[1] = "" + x.trials();
+        all[2] = "" + x.fault();
+        all[3] = "";
         for (int k = 0; k < 6; k++) {
             int match = k;
-            all.append(' ').append(Checks.answer(() -> x.found(match, false)));
-            all.append(Checks.answer(() -> x.found(match, true)));
+            all[3] += ' ' + Checks.answer(() -> x.found(match, false)) + Checks.answer(() -> x.found(match, true));
         }
+        all[4] = "";
         for (int k = 0; k < 110; k++) {
             int place = k;
-            all.append(Checks.answer(() -> x.outSign(place)).replace(BOUNDS, "~"));
+            all[4] += Checks.answer(() -> x.outSign(place)).replace(BOUNDS, "~");
         }
+        all[5] = "" + x.setBudget(250);
+        // Put ahead of the text, which then comes alone.
+        String both = Checks.out(x, x.replace(3));
+        all[7] = Checks.out(x, x.replace(3)) + x.length();
+        all[6] = both.substring(0, both.length() - x.length()) + x.clear();
+        all[8] = "";
+        Checks.text(x, "abaac");
         for (int k = 0; k < 4; k++) {
             int p = k;
-            all.append(' ').append(Checks.answer(() -> x.isPlain(p))).append(Checks.answer(() -> x.isRegular(p)));
-            for (int from = 0; from <= x.length(); from++) {
+            all[8] += ' ' + Checks.answer(() -> x.isPlain(p)) + Checks.answer(() -> x.isRegular(p));
+            for (int from = 0; from <= 5; from++) {
                 int place = from;
-                all.append(Checks.answer(() -> x.match(p, place)));
+                all[8] += Checks.answer(() -> x.match(p, place)) + Checks.answer(() -> x.matchBySets(p, place));
             }
         }
-        all.append(" b").append(x.setBudget(250)).append(" l").append(x.length());
-        // The draft and the text as they are.
-        int size = x.replace(3);
-        return all.append(' ').append(Checks.out(x, size)).append(x.clear()).toString();
+        return all;
+    }
+
+    private static String seen(Regexloom x) {
+        return String.join(" ", partsOf(x));
+    }
+
+    /** What a call changes, and nothing else: the names of parts. */
+    private static void changes(String what, String draft, String due, Function<Regexloom, Object> call) {
+        Regexloom x = full();
+        Regexloom same = full();
+        for (Regexloom one : new Regexloom[] {x, same}) {
+            one.clear();
+            Checks.draw(one, draft);
+        }
+        call.apply(x);
+        String[] now = partsOf(x);
+        String[] before = partsOf(same);
+        StringBuilder changed = new StringBuilder();
+        for (int k = 0; k < PARTS.length; k++) {
+            changed.append(now[k].equals(before[k]) ? "" : PARTS[k] + " ");
+        }
+        CHECKS.due("what " + what + " changes", changed.toString().trim(), due);
+    }
+
+    /** Each method returns and changes what its promise says, and leaves the rest as it is. */
+    private static void whatCallsChange() {
+        changes("sign", "q(", "fault draft", x -> x.sign('a'));
+        changes("clear", "q(", "fault draft", x -> x.clear());
+        changes("fault", "q(", "", x -> x.fault());
+        changes("fault of none", "b", "", x -> x.fault());
+        changes("tell in place of one", "b", "draft patterns", x -> x.tell(0));
+        changes("tell a first one", "(b)", "draft patterns", x -> x.tell(2));
+        changes("lot", "b", "draft text", x -> x.lot());
+        changes("lot of nothing", "", "", x -> x.lot());
+        changes("wipe", "q(", "text", x -> x.wipe());
+        changes("length", "q(", "", x -> x.length());
+        changes("isPlain", "q(", "", x -> x.isPlain(0));
+        changes("isRegular", "q(", "", x -> x.isRegular(0));
+        changes("setBudget", "q(", "budget", x -> x.setBudget(78));
+        changes("match", "q(", "groups trials", x -> x.match(0, 4));
+        changes("match without one", "q(", "groups trials", x -> x.match(0, 1));
+        changes("match of another one", "q(", "groups trials", x -> x.match(3, 0));
+        changes("find", "q(", "groups trials", x -> x.find(0, 4));
+        changes("find without one", "q(", "groups trials", x -> x.find(0, 5));
+        changes("matchBySets", "q(", "groups", x -> x.matchBySets(0, 4));
+        changes("matchBySets without one", "q(", "groups", x -> x.matchBySets(0, 5));
+        changes("group", "q(", "", x -> x.group(0, true));
+        changes("trials", "q(", "", x -> x.trials());
+        changes("longest", "q(", "", x -> x.longest(0, 0));
+        changes("longest without one", "q(", "", x -> x.longest(0, 5));
+        changes("canStill", "q(", "", x -> x.canStill(0, 4));
+        changes("canStill not", "q(", "", x -> x.canStill(0, 0));
+        for (int from = 0; from <= 5; from++) {
+            int place = from;
+            changes("which at " + from, "q(", "", x -> x.which(place));
+        }
+        changes("ways", "q(", "", x -> x.ways(0, 0, 2));
+        changes("ways of none", "q(", "", x -> x.ways(0, 2, 0));
+        changes("findAll", "q(", "matches", x -> x.findAll(1));
+        changes("findAll of one", "q(", "matches", x -> x.findAll(3));
+        changes("found", "q(", "", x -> x.found(0, true));
+        changes("replace", "b", "out draft", x -> x.replace(0));
+        changes("replace by what would be a fault", "q(", "fault out draft", x -> x.replace(1));
+        changes("outSign", "q(", "", x -> x.outSign(0));
     }
 
     private static void refused(String what, String name, Function<Regexloom, Object> call) {
