@@ -1324,6 +1324,21 @@ public final class EdgesTest {
             CHECKS.due("canStill " + size + " and a blank", y.canStill(0, 0), false);
             CHECKS.due("longest " + size + " and a blank", y.longest(0, 0), size < 4 ? -1 : size);
         }
+        // In the midst of a turn, behind which others can come.
+        canStill("(ab)*", "a", true);
+        canStill("(ab)*", "abab", true);
+        canStill("(ab)*", "ababa", true);
+        canStill("(ab)*", "abb", false);
+        canStill("(ab)+?", "aba", true);
+        canStill("(?:a(?:bc)*d)*", "abcb", true);
+        canStill("(?:a(?:bc)*d)*", "abcdabc", true);
+        canStill("(?:a(?:b(?:cd)*e)*f)+", "abcdc", true);
+        canStill("(?:a(?:b(?:cd)*e)*f)+", "abcdd", false);
+        canStill("((a?b?)*c)*", "abbac", true);
+        canStill("((a?b?)*c)*", "abba", true);
+        canStill("(a{2,3}){2,}", "aaaaa", true);
+        canStill("(ab){3}", "aba", true);
+        canStill("(ab){3}", "abababa", false);
         // Signs that no text has cannot come; but they need not, if there is another way.
         canStill("\\.", "", false);
         canStill("\\.|a", "", true);
@@ -1464,6 +1479,7 @@ public final class EdgesTest {
         matchesOfCalls();
         firstLineDecides();
         whatCallsChange();
+        oneBehindAnother();
         refusedCalls();
     }
 
@@ -1689,6 +1705,48 @@ public final class EdgesTest {
         changes("replace", "b", "out draft", x -> x.replace(0));
         changes("replace by what would be a fault", "q(", "fault out draft", x -> x.replace(1));
         changes("outSign", "q(", "", x -> x.outSign(0));
+    }
+
+    private static final String[] DRAFTS = {"(a)(b)?", "\\2()", "", "a*?b", "(a", "(?|(a)|(b))\\1", "b|a(*C)", "[^a-b]",
+        "()\\1(?1)", "(?1)", "a++", "^|$", "(?<=a)b", "a)", "(a)(b)(c)(d)(e)(f)", "a{2,3}", "\\6", "(?i:A)\\b",
+        "(?R)?a", "a(*S)c|b", "((a|b)+?)c", "(?!b).", "[b-a]", "()(?(1)a|b|", "c|(?(1)b)()", "ab\\.",
+        "(?:ab)*", "a(?:\\*|bx)", "(a?)*b\\^|a", "(?:a|a)*(?:a|a)*", "(?:abc?a)*\\$"};
+
+    /** What a draft answers, and what the pattern that it is then does with a text. */
+    private static String allOf(Regexloom x, String draft, String text) {
+        x.clear();
+        Checks.draw(x, draft);
+        StringBuilder all = new StringBuilder("f").append(x.fault());
+        if (x.fault() != -1) {
+            return all.append(Checks.answer(() -> x.tell(1))).toString();
+        }
+        all.append(" g").append(x.tell(1)).append(' ').append(x.isPlain(1)).append(x.isRegular(1));
+        x.wipe();
+        Checks.draw(x, text);
+        all.append(x.lot()).append(" m").append(x.match(1, 0)).append(" t").append(x.trials());
+        all.append(Checks.groups(x)).append(" f").append(x.find(1, 1)).append(" t").append(x.trials());
+        all.append(Checks.groups(x)).append(" s").append(Checks.answer(() -> x.matchBySets(1, 0)));
+        all.append(" l").append(Checks.answer(() -> x.longest(1, 0)));
+        all.append(" c").append(Checks.answer(() -> x.canStill(1, 0)));
+        all.append(" w").append(Checks.answer(() -> x.ways(1, 0, 1))).append(" a").append(x.findAll(1));
+        x.sign('#');
+        int size = x.replace(1);
+        return all.append(" r").append(Checks.out(x, size)).toString();
+    }
+
+    /** What an object answers of a pattern and a text has nothing of those that it had before. */
+    private static void oneBehindAnother() {
+        for (int first = 0; first < DRAFTS.length; first++) {
+            for (int step : new int[] {1, 4, 7}) {
+                Regexloom x = new Regexloom();
+                // So many as stay below 512 calls.
+                for (int k = 0; k < 6; k++) {
+                    String draft = DRAFTS[(first + k * step) % DRAFTS.length];
+                    String text = k % 2 == 0 ? "abcab" : "ba";
+                    CHECKS.due(draft + " behind others", allOf(x, draft, text), allOf(new Regexloom(), draft, text));
+                }
+            }
+        }
     }
 
     private static void refused(String what, String name, Function<Regexloom, Object> call) {
