@@ -1480,6 +1480,7 @@ public final class EdgesTest {
         firstLineDecides();
         whatCallsChange();
         oneBehindAnother();
+        onceMore();
         refusedCalls();
     }
 
@@ -1746,6 +1747,29 @@ public final class EdgesTest {
                     CHECKS.due(draft + " behind others", allOf(x, draft, text), allOf(new Regexloom(), draft, text));
                 }
             }
+        }
+    }
+
+    /** "An object is used for at most 512 calls": the same calls so often answer the same, and so do the last ones. */
+    private static void onceMore() {
+        for (String pattern : new String[] {"(a)*", "((a)|b)*?$", "(?:(a)(?=(a))|(?1))*", "(?>(a)(*S))+b", "(a)(?2)*+(.)"}) {
+            Regexloom x = Checks.with(pattern, row('a', 20));
+            String first = "";
+            // Some 45 calls so far, and nine in each round; fifteen at last.
+            for (int round = 0; round <= 40; round++) {
+                String all = "m" + x.match(0, 0) + " t" + x.trials() + " f" + x.find(0, 1)
+                        + " s" + Checks.answer(() -> x.matchBySets(0, 0)) + " w" + x.which(0)
+                        + " y" + Checks.answer(() -> x.ways(0, 0, 9)) + " l" + Checks.answer(() -> x.longest(0, 0))
+                        + " a" + x.findAll(0) + " r" + Checks.answer(() -> x.replace(0));
+                if (round == 0) {
+                    first = all;
+                }
+                CHECKS.due(pattern + " in round " + round, all, first);
+            }
+            int end = x.match(0, 0);
+            String groups = Checks.groups(x);
+            Regexloom fresh = Checks.with(pattern, row('a', 20));
+            CHECKS.due(pattern + " at last", end + groups, fresh.match(0, 0) + Checks.groups(fresh));
         }
     }
 
